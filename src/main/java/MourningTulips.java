@@ -766,7 +766,7 @@ public final class MourningTulips {
 
         void passYear() {
             for (int b = 0; b < bulbs; b++) {
-                prices[b] = priceBehind(b, 1);
+                prices[b] = KINDS[kinds[b]].next(prices[b], year);
             }
             year++;
         }

@@ -132,6 +132,10 @@ public final class PromisesTest {
         x = polder("0>1=50>2=1,0>0=50,0");
         due(4, "a round that falls", x.count(3), 3);
         due(21, "alone in a round", x.alone(), 1);
+        x = polder("0>1=99,0>2=50,0>3=40,0>4=30,0>0=20");
+        due(4, "five, one by one", x.count(3), 31);
+        x = polder("0>4=20,0>0=30,0>1=40,0>2=50,0>3=99");
+        due(4, "five, one by one, from the last", x.count(3), 31);
     }
 
     private static void at() {
@@ -203,26 +207,27 @@ public final class PromisesTest {
             "9>1=100", "9>1=9", "9>1=9,", "9>1=9>1", "9>12", "9>1 =  9 0", "1,2,3,4,5,6", "1,2,3,4,5,",
             "1;", "1;x", "1;s", "1;s0", "1;s00", "1;s100", "1;s1@", "1;s1@1", "1;s1@01", "1;s1,", "1;s1;",
             "1;s1,s1,s1,s1,s1,s1,s1,s1", "1>2=3,1;s1", "1>2=3,1;s1  ", "1>2=3,1;x", "1,1;S1", "1;s 1 1",
-            "1 ;", " 1 x", "1>1=2>0", "1>4=1>3=2>2=3>1=4>", "1>4=1>3=2>2=3>1=4>1", "-1", "1=2", "1@0"};
+            "1 ;", " 1 x", "1>1=2>0", "1>4=1>3=2>2=3>1=4>", "1>4=1>3=2>2=3>1=4>1", "-1", "1=2", "1@0",
+            "9>1=1>1=2,1", "9>1=1", "1;s000", "1,2,3,4,5>5=1"};
         int[] places = {
             0, 3, 0, 0, 2, 2, 2, 2, 2, 2, 3, 4, 4, 4,
             6, 5, 6, 6, 3, 9, 9, 9,
             2, 2, 3, 3, 3, 5, 5, 5, 6, 5, 4,
             22, 10, 12, 8, 4, 6,
-            3, 3, 6, 18, 18, 0, 1, 1};
-        MourningTulips x = polder("7,8;r9@1");
-        x.years(1);
+            3, 3, 6, 18, 18, 0, 1, 1,
+            6, 5, 3, 10};
         for (int k = 0; k < texts.length; k++) {
-            for (int c = 0; c < texts[k].length(); c++) {
-                x.type(texts[k].charAt(c));
-            }
-            due(8, "read of '" + texts[k] + "'", x.read(), -20 - places[k]);
+            MourningTulips x = polder("7,8>0=5;r9@1");
+            x.years(1);
+            due(8, "read of '" + texts[k] + "'", tell(x, texts[k]), -20 - places[k]);
+            due(8, "houses stay", x.count(0), 2);
+            due(8, "cash stays", x.count(4), 15);
+            due(8, "prices stay", x.count(5), 10);
+            due(8, "debts stay", x.owes(1, 0), 5);
+            due(8, "the year stays", x.count(2), 1);
+            due(8, "what may be undone stays", x.count(7), 1);
+            due(8, "the tape is empty", x.type('9'), 1);
         }
-        due(8, "houses stay", x.count(0), 2);
-        due(8, "cash stays", x.count(4), 15);
-        due(8, "prices stay", x.count(5), 10);
-        due(8, "the year stays", x.count(2), 1);
-        due(8, "what may be undone stays", x.count(7), 1);
     }
 
     private static void read() {
@@ -255,6 +260,8 @@ public final class PromisesTest {
         due(8, "one house", tell(x, "0"), 1);
         due(8, "no bulbs", x.count(1), 0);
         due(8, "no debts", x.count(6), 0);
+        due(9, "no cash of houses before", x.count(4), 0);
+        due(9, "no prices of bulbs before", x.count(5), 0);
     }
 
     private static void count() {
@@ -367,6 +374,7 @@ public final class PromisesTest {
         due(13, "paid", x.pay(1, 2, 3), 0);
         due(13, "owes", x.owes(1, 2), 0);
         due(13, "to be undone", x.count(7), 2);
+        due(13, "99", polder("99>1=99,0").pay(0, 1, 99), 0);
         x = new MourningTulips();
         x.house(990);
         x.house(99);
@@ -412,6 +420,18 @@ public final class PromisesTest {
         due(14, "999 at most", x.of(0, 0), 999);
         due(14, "8 to be undone", x.count(7), 8);
         due(14, "the year", x.count(2), 42);
+        x = polder("0,0,0,0,0");
+        x.seed(987654321);
+        draw = 987654321;
+        int[] cash = new int[5];
+        for (int k = 0; k < 30; k++) {
+            due(14, "drift", x.drift(1), 0);
+            draw = (draw * 1103515245L + 12345L) & 0x7fffffffL;
+            cash[(int) (draw / 65536 % 5)] += draw / 128 % 9;
+            for (int h = 0; h < 5; h++) {
+                due(14, "cash of " + h + " behind " + (k + 1), x.of(h, 0), cash[h]);
+            }
+        }
     }
 
     private static void undo() {
@@ -487,6 +507,11 @@ public final class PromisesTest {
         due(19, "goods(0, 61)", x.goods(0, 61), BAD);
         due(19, "goods(0, -1)", x.goods(0, -1), BAD);
         due(19, "nothing is changed", x.count(2) + x.count(5) + x.count(7), 59);
+        x.years(1);
+        due(17, "from year 1: 20 20 20 10", x.price(1, 2), 20);
+        due(17, "from year 1: 20 20 20 10", x.price(1, 3), 10);
+        due(17, "from year 1: 4 9 9 9", x.price(2, 1), 9);
+        due(17, "from year 1: 4 9 9 9", x.price(2, 3), 9);
     }
 
     private static void falls() {
@@ -500,6 +525,18 @@ public final class PromisesTest {
         due(20, "from now", x.falls(0), 3);
         due(20, "by what another does", polder("0>1=15,9>2=20,0;b40").falls(1), 4);
         due(20, "fails now", polder("0>1=1,0").falls(0), 0);
+        x = polder("0>1=20,0");
+        x.years(1);
+        x.bulb(4, 38, 0);
+        x.bulb(4, 90, 0);
+        x.bulb(3, 55, 0);
+        due(20, "at last", x.falls(0), 60);
+        x = polder("0>1=18,0");
+        x.years(1);
+        x.bulb(4, 38, 0);
+        x.bulb(4, 90, 0);
+        x.bulb(3, 55, 0);
+        due(20, "never", x.falls(0), NONE);
         due(20, "1 at least", polder("0>1=1,0;b99").falls(0), NONE);
         due(20, "99 49 24 12 6 3 1", polder("0>1=2,0;b99").falls(0), 16);
     }
@@ -528,6 +565,9 @@ public final class PromisesTest {
         x.bulb(4, 94, 0);
         due(22, "behind 1", x.sells(1, 0), 1);
         due(22, "99", x.sells(1, 1), 99);
+        // 60 65 65 37: not as from year 0, where it is halved at once.
+        x.bulb(4, 60, 0);
+        due(22, "from year 1", x.sells(2, 1), 65);
     }
 
     private static void gift() {
@@ -545,6 +585,7 @@ public final class PromisesTest {
         due(23, "nobody fails", x.gift(0), 0);
         x = polder("0>1=99>2=99>3=99>4=99,0,0,0,0");
         due(23, "the most", x.gift(0), 396);
+        due(23, "with what others owe it", polder("3>1=20,9>0=6").gift(0), 11);
     }
 
     private static void forgive() {
@@ -559,6 +600,8 @@ public final class PromisesTest {
         x = polder("9,9>2=1>0=1,9>1=1");
         due(24, "of like ones the first", x.forgive(0), 10);
         due(24, "nobody fails", x.forgive(1), 0);
+        due(24, "of house 0", polder("0>1=5>2=6,0,9").forgive(0), 1);
+        due(24, "of house 0", polder("1>1=1>2=6,0,9").forgive(0), 2);
         x = polder("9,9");
         due(24, "nobody owes", x.forgive(0), NONE);
         due(24, "nobody owes", x.forgive(1), NONE);
@@ -581,6 +624,9 @@ public final class PromisesTest {
         due(25, "sum", x.settle(1), 1);
         x = polder("0>1=5,0>0=2,0>3=1,0>4=1,0>2=1");
         due(25, "two rings", x.settle(2), 31);
+        due(25, "0 has nothing to settle", polder("0,0>2=5,0").settle(0), 1);
+        due(25, "nobody has", polder("0>1=4,0>2=4,0>0=4").settle(0), 0);
+        due(25, "four for five", polder("0>4=1,0>4=2,0>4=3,0>4=4,0").settle(0), 4);
         x = polder("0>4=1,0>2=5,0>1=1,0>1=5,0>3=5");
         due(25, "only those on the round", x.settle(2), 6);
         due(25, "settle(3)", x.settle(3), BAD);
@@ -659,6 +705,12 @@ public final class PromisesTest {
         due(28, "restore", x.restore(), 1);
         due(28, "year", x.count(2), 10);
         due(28, "what may be undone", x.count(7), 8);
+        x.drift(20);
+        due(28, "restore", x.restore(), 1);
+        for (int k = 7; k >= 0; k--) {
+            due(28, "undo", x.undo(), k);
+            due(28, "year", x.count(2), 2 + k);
+        }
     }
 
     private static void whose() {
@@ -703,6 +755,13 @@ public final class PromisesTest {
         due(29, "no bulbs", x.whose(-1, 0, 0, 0), 1);
         due(29, "no bulbs, none in all", x.whose(1, 0, 0, 0), 0);
         due(29, "no bulbs for 1", x.whose(-1, 0, 0, 1), 0);
+        x = polder("0,0,0,0,0;s1,s1,s1,s1,s1,s1,s1");
+        row(x, 0, 3, 2, 2, 1, 1, 1);
+        due(29, "7! by 2! 2!", x.whose(-1, 0, 3, 0), 1260);
+        due(29, "none in all", x.whose(4, 0, 3, 0), 0);
+        due(29, "read", tell(x, "0,0"), 2);
+        row(x, 0, 3, 0, 0);
+        due(29, "no bulbs", x.whose(-1, 0, 3, 0), 1);
     }
 
     private static void gone() {
@@ -748,41 +807,56 @@ public final class PromisesTest {
         x.film(0, 8, 0, 2, 16);
         due(30, "eight", x.gone(0, 0, 2, 16, 8, 0), 2);
         due(30, "eight, the least", x.gone(0, 0, 2, 16, 8, 2), 20);
+        x = polder("0;b1,s1");
+        row(x, 0, 2, 1, 1, 1, 1);
+        due(30, "STEADY, BROKEN", x.gone(0, 0, 2, 0, 1, 0), 21);
+        due(30, "STEADY, BROKEN", x.gone(0, 0, 2, 0, 4, 0), 5);
+        due(30, "1, 2, 3", x.gone(0, 0, 2, 0, 3, 1), 3);
+        due(30, "1", x.gone(0, 0, 2, 0, 3, 2), 1);
+        x = polder("0;b41");
+        x.years(1);
+        row(x, 0, 2, 20, 20, 10);
+        due(30, "from year 1", x.gone(0, 0, 2, 0, 3, 0), 4);
+        x.sheet(0, 2, 3);
+        x.film(0, 3, 0, 2, 0);
+        due(31, "from year 1", x.gone(0, 0, 2, 0, 3, 0), 4);
+        due(31, "from year 1", holds(x, 0, 2, 2, 10), 1);
     }
 
     private static void film() {
-        MourningTulips x = polder("0;r10,k50");
-        due(31, "NULL", x.film(0, 3, 0, 0, 0), NULL);
         for (int lane = 0; lane < 4; lane++) {
+            MourningTulips x = polder("0;r10,k50");
+            due(31, "NULL", x.film(0, 3, lane, lane, 0), NULL);
             x.sheet(lane, lane, 24);
-            due(31, "film", x.film(0, 24, lane, lane, 0), 24);
-            due(31, "film", x.film(1, 3, lane, lane, 21), 3);
-            for (int k = 0; k < 21; k++) {
-                due(31, "first of RISING", holds(x, lane, lane, k, x.price(0, k + 1)), 1);
-            }
-            for (int k = 0; k < 3; k++) {
-                due(31, "of BLACK", holds(x, lane, lane, 21 + k, x.price(1, k + 1)), 1);
-            }
+            due(31, "24", x.film(0, 24, lane, lane, 0), 24);
+            due(31, "to the end", x.film(1, 3, lane, lane, 21), 3);
+            items(x, lane, lane, 12, 14, 16, 18, 20, 23, 26, 29, 32, 36, 40, 45, 50, 56, 62, 69, 76, 84, 93, 99, 99,
+                25, 30, 30);
+            due(31, "nothing is changed", x.count(2) + x.count(7), 0);
         }
-        due(31, "nothing is changed", x.count(2) + x.count(7), 0);
-        due(31, "no such bulb", x.film(2, 1, 0, 0, 0), BAD);
+        MourningTulips x = polder("0;r10");
+        x.sheet(0, 0, 3);
+        x.film(0, 2, 0, 0, 1);
+        due(31, "no such bulb", x.film(1, 1, 0, 0, 0), BAD);
         due(31, "no such bulb", x.film(-1, 1, 0, 0, 0), BAD);
         due(31, "n", x.film(0, 0, 0, 0, 0), BAD);
         due(31, "n", x.film(0, 25, 0, 0, 0), BAD);
         due(31, "sheet", x.film(0, 1, 4, 0, 0), BAD);
+        due(31, "sheet", x.film(0, 1, -1, 0, 0), BAD);
         due(31, "lane", x.film(0, 1, 0, 4, 0), BAD);
+        due(31, "lane", x.film(0, 1, 0, -1, 0), BAD);
         due(31, "CAST", x.film(0, 24, 0, 1, 1), CAST);
-        due(31, "INDEX", x.film(0, 4, 0, 0, 21), INDEX);
-        due(31, "INDEX", x.film(0, 1, 0, 0, 24), INDEX);
+        due(31, "INDEX", x.film(0, 3, 0, 0, 1), INDEX);
+        due(31, "INDEX", x.film(0, 1, 0, 0, 3), INDEX);
         due(31, "INDEX", x.film(0, 1, 0, 0, -1), INDEX);
         due(31, "INDEX", x.film(0, 2, 0, 0, HIGH), INDEX);
-        due(31, "refused: nothing comes", holds(x, 0, 0, 21, x.price(1, 1)), 1);
+        due(31, "refused: nothing comes", holds(x, 0, 0, 1, 12), 1);
+        due(31, "refused: nothing comes", holds(x, 0, 0, 2, 14), 1);
     }
 
     /** Whether item i is a price: as one way to share a bulb of that price. */
     private static int holds(MourningTulips x, int sheet, int lane, int i, int price) {
         x.image();
-        x.house(0);
         due(8, "read", tell(x, "0;s" + price), 1);
         int answer = x.whose(-1, sheet, lane, i);
         x.restore();

@@ -568,6 +568,10 @@ public final class PromisesTest {
         // 60 65 65 37: not as from year 0, where it is halved at once.
         x.bulb(4, 60, 0);
         due(22, "from year 1", x.sells(2, 1), 65);
+        x.years(4);
+        x.bulb(4, 60, 0);
+        due(22, "from year 5: 60 65 32", x.sells(3, 1), 65);
+        due(22, "from year 5: 60 65 32", x.sells(3, 0), 1);
     }
 
     private static void gift() {
@@ -602,6 +606,7 @@ public final class PromisesTest {
         due(24, "nobody fails", x.forgive(1), 0);
         due(24, "of house 0", polder("0>1=5>2=6,0,9").forgive(0), 1);
         due(24, "of house 0", polder("1>1=1>2=6,0,9").forgive(0), 2);
+        due(24, "of five", polder("9,9,9,9>2=1,0>3=7").forgive(0), 43);
         x = polder("9,9");
         due(24, "nobody owes", x.forgive(0), NONE);
         due(24, "nobody owes", x.forgive(1), NONE);
@@ -633,6 +638,7 @@ public final class PromisesTest {
         due(25, "settle(-1)", x.settle(-1), BAD);
         x = new MourningTulips();
         due(25, "no houses", x.settle(0), 0);
+        due(25, "one house", polder("1").settle(0), 0);
         due(25, "settle(3)", x.settle(3), BAD);
     }
 
@@ -666,6 +672,12 @@ public final class PromisesTest {
         due(26, "below", x.easter(0, 1, 1), 10000000 / 16);
         due(26, "no bulbs", polder("0>1=1,0").easter(0, 3, 1), 1);
         due(26, "no bulbs", polder("0>1=1,0").easter(0, 3, 0), 1);
+        x = polder("0>1=17,0;s1");
+        due(26, "fails", x.easter(0, 3, 0), 1);
+        x.bulb(0, 10, 0);
+        x.bulb(0, 10, 0);
+        due(26, "as it is now", x.easter(0, 3, 0), 51);
+        due(26, "as it is now", x.easter(0, 3, 1), 100);
     }
 
     private static void image() {

@@ -22,6 +22,7 @@ public final class MourningTulips {
     private static final int SHEETS = 4;
     private static final int LANES = 4;
     private static final int ITEMS = 24;
+    private static final long DRAW_BITS = 0x7fffffffL;
     private static final int FINE = 0;
     private static final Kind[] KINDS = Kind.values();
 
@@ -772,7 +773,7 @@ public final class MourningTulips {
         }
 
         void drawCash() {
-            draw = (int) (draw * 1103515245L + 12345L & Integer.MAX_VALUE);
+            draw = (int) (draw * 1103515245L + 12345L & DRAW_BITS);
             if (houses > 0) {
                 int lucky = draw / 65536 % houses;
                 cash[lucky] = Math.min(MOST_CASH, cash[lucky] + draw / 128 % 9);

@@ -8,6 +8,8 @@ import java.nio.file.Path;
 import java.util.Arrays;
 import java.util.Set;
 import java.util.TreeSet;
+import java.util.regex.Matcher;
+import java.util.regex.Pattern;
 
 /** The public face of the document, and rules of LANGUAGE.md that a program can look after. */
 public final class FaceTest {
@@ -22,6 +24,9 @@ public final class FaceTest {
         "sheet(int,int,int)", "drop(int)", "item(int,int,int,long)", "copy(int,int,int,int,int)"};
     private static final String[] FORBIDDEN = {"->", "::", "synchronized", "assert ", "finally", "Exact(", "throw ",
         "catch", "System.out", "Random", "nanoTime", "currentTime", "Thread", "static {", "@", "instanceof"};
+
+    private static final Set<String> LIBRARY = Set.of("Math.max", "Math.min", "Integer.bitCount", "Arrays.fill",
+        "System.arraycopy");
 
     private static int wrong = 0;
 
@@ -94,6 +99,32 @@ public final class FaceTest {
             check(!code.contains(word), "in the source: " + word);
         }
         check(code.replace("import java.util.Arrays;", "").indexOf("import") < 0, "another import");
+        Matcher uses = Pattern.compile("\\b(Integer|Long|Math|Arrays|System|String|List|Object)\\.\\w+").matcher(code);
+        while (uses.find()) {
+            check(LIBRARY.contains(uses.group()), "of the library: " + uses.group());
+        }
+        check(code.split("\\b(class|enum|interface|record) \\w+ ").length - 1 + bodies(code) <= 12, "too many classes");
+        methodsAreShort(text.split("\n"));
+    }
+
+    /** Constants of an enum with bodies of their own. */
+    private static int bodies(String code) {
+        return code.split("[A-Z]\\('.'\\) \\{").length - 1;
+    }
+
+    /** A method's head and end stand at the same depth. */
+    private static void methodsAreShort(String[] lines) {
+        for (int k = 0; k < lines.length; k++) {
+            String line = lines[k];
+            if (line.matches(" +[a-zA-Z][^=]*\\) \\{") && !line.matches(" +(\\} else )?(if|for|while|switch) .*")) {
+                String end = line.substring(0, line.indexOf(line.trim())) + "}";
+                int last = k;
+                while (last < lines.length && !lines[last].equals(end)) {
+                    last++;
+                }
+                check(last - k <= 60, "a long method at line " + (k + 1));
+            }
+        }
     }
 
     public static void main(String[] args) throws Exception {

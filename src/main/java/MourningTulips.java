@@ -1097,9 +1097,9 @@ public final class MourningTulips {
                 }
                 return;
             }
-            // Goes down through all sets within the free one, to the empty set.
-            for (int part = free; part >= 0; part = part == 0 ? -1 : part - 1 & free) {
-                if (worth[part] == due[house]) {
+            for (int part = 0; part <= free; part++) {
+                boolean isFree = (part & ~free) == 0;
+                if (isFree && worth[part] == due[house]) {
                     share(house + 1, free ^ part, house == told ? part : toldBulbs);
                 }
             }
